@@ -116,7 +116,7 @@ public final class CellarPen {
             case 1005:
                 return cellar.markCount;
             default:
-                return cellar.hasSample(what) ? cellar.samples[what] : UNKNOWN;
+                return cellar.sampleAt(what);
         }
     }
 
@@ -600,7 +600,10 @@ public final class CellarPen {
         if (v <= 0) {
             return 0;
         }
-        int k = 31 - Integer.numberOfLeadingZeros(v);
+        int k = 0;
+        for (int half = v / 2; half > 0 && k < 30; half = half / 2) {
+            k++;
+        }
         // a long, since ten times a great number would wrap as an int
         long beyond = 10L * (v - (1 << k));
         return 10 * k + (int) (beyond >> k);
@@ -716,7 +719,8 @@ public final class CellarPen {
         int distance(int x, int y, int otherX, int otherY) {
             int dx = Math.abs(x - otherX);
             int dy = Math.abs(y - otherY);
-            return isCell(dx, dy) ? distances[SIDE * dy + dx] : 0;
+            int index = SIDE * dy + dx;
+            return index >= 0 && index < distances.length ? distances[index] : 0;
         }
     }
 
@@ -729,7 +733,7 @@ public final class CellarPen {
         int limit;
         int deflection;
         int speed;
-        final int[] samples;
+        private final int[] samples;
         int sampleCount;
         private final int[] markSamples;
         private final int[] markMinutes;
@@ -780,11 +784,12 @@ public final class CellarPen {
         }
 
         boolean isMissing(int i) {
-            return !hasSample(i) || samples[i] == UNKNOWN;
+            return sampleAt(i) == UNKNOWN;
         }
 
         boolean isClipped(int i) {
-            return !isMissing(i) && Math.abs(samples[i]) >= limit;
+            int sample = sampleAt(i);
+            return sample != UNKNOWN && Math.abs(sample) >= limit;
         }
 
         int clippedCount() {
@@ -831,16 +836,17 @@ public final class CellarPen {
             return true;
         }
 
-        int sampleOrZero(int i) {
-            return isMissing(i) ? 0 : samples[i];
+        int sampleAt(int i) {
+            return i >= 0 && i < sampleCount ? samples[i] : UNKNOWN;
         }
 
+        /** v(i), which only means something where both SAMPLES are readable. */
         int speedAt(int i) {
-            return sampleOrZero(i) - sampleOrZero(i - 1);
+            return sampleAt(i) - sampleAt(i - 1);
         }
 
         int readBack(int i) {
-            int pull = (damp * speedAt(i - 1) + stiff * sampleOrZero(i - 1)) / 64;
+            int pull = (damp * speedAt(i - 1) + stiff * sampleAt(i - 1)) / 64;
             return speedAt(i) - speedAt(i - 1) + pull;
         }
 
@@ -871,7 +877,7 @@ public final class CellarPen {
 
         int firstBeyond(int threshold) {
             for (int i = 0; i < sampleCount; i++) {
-                if (!isMissing(i) && Math.abs(samples[i]) > threshold) {
+                if (!isMissing(i) && Math.abs(sampleAt(i)) > threshold) {
                     return i;
                 }
             }
@@ -896,7 +902,7 @@ public final class CellarPen {
                 high = 63;
                 for (int i = from + 2; i <= to && low <= high; i++) {
                     int before = cellar.speedAt(i - 1);
-                    narrow(before - cellar.speedAt(i), damp * before, cellar.sampleOrZero(i - 1));
+                    narrow(before - cellar.speedAt(i), damp * before, cellar.sampleAt(i - 1));
                 }
                 if (low <= high) {
                     keep(damp);
@@ -967,12 +973,12 @@ public final class CellarPen {
             int crossings = 0;
             int clipped = 0;
             for (int i = a; i <= b; i++) {
-                int sample = cellar.sampleOrZero(i);
+                int sample = cellar.sampleAt(i);
                 if (Math.abs(sample) > peak) {
                     peak = Math.abs(sample);
                     rise = i - a;
                 }
-                if (i > a && isCrossing(cellar.sampleOrZero(i - 1), sample)) {
+                if (i > a && isCrossing(cellar.sampleAt(i - 1), sample)) {
                     crossings++;
                 }
                 if (cellar.isClipped(i)) {
@@ -1554,7 +1560,10 @@ public final class CellarPen {
 
         /** The first time that is free must be a P: all ways to give it its S, and to part the rest. */
         private static int waysFrom(int[] times, int count, int taken, int longest, int depth) {
-            int p = Integer.numberOfTrailingZeros(~taken);
+            int p = 0;
+            while (p < count && (taken >> p & 1) == 1) {
+                p++;
+            }
             if (p >= count || p >= times.length) {
                 return 1;
             }

@@ -117,6 +117,8 @@ public final class ClockTest {
         Due.is("threshold -1", p.first(0, -1), NONE);
         Due.is("threshold 1000", p.first(0, 1000), NONE);
         Due.is("cellar 1", p.first(1, 0), NONE);
+        Due.samples(p, 0, -1, 1);
+        Due.is("the very first", p.first(0, 0), 0);
     }
 
     private static void bursts() {
@@ -134,6 +136,7 @@ public final class ClockTest {
         Due.is("nothing ahead of a counts", p.burst(0, 2, 4, 1), 0);
         Due.is("rise of equals", p.burst(0, 1, 4, 2), 0);
         Due.is("a missing one", p.burst(0, 7, 8, 0), NONE);
+        Due.is("a above b, the rise", p.burst(0, 4, 3, 2), NONE);
         Due.is("a missing one between", p.burst(0, 7, 9, 0), NONE);
         Due.is("beyond", p.burst(0, 9, 10, 0), NONE);
         Due.is("a -1", p.burst(0, -1, 3, 0), NONE);
@@ -143,5 +146,8 @@ public final class ClockTest {
         Due.is("cellar 1", p.burst(1, 0, 3, 0), NONE);
         p.pen(0, 8, 16, 151);
         Due.is("clipped by the limit of now", p.burst(0, 0, 7, 3), 0);
+        Due.samples(p, 0, 0, -1, 0, 1, 0, -1, 1, -1);
+        Due.is("a 0 is no side", p.burst(0, 0, 5, 1), 0);
+        Due.is("1 and -1 are sides", p.burst(0, 0, 7, 1), 2);
     }
 }

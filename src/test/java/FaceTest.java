@@ -106,7 +106,7 @@ public final class FaceTest {
         for (String word : FORBIDDEN) {
             Due.no("the word " + word, bare.matches("(?s).*\\b" + word + "\\b.*"));
         }
-        for (String sign : new String[] {"->", "::", "@", "while"}) {
+        for (String sign : new String[] {"->", "::", "@"}) {
             Due.no("the sign " + sign, bare.contains(sign));
         }
         for (int i = 0; i < text.length(); i++) {

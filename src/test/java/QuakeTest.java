@@ -237,6 +237,11 @@ public final class QuakeTest {
         two.read(0, 0, 1000, 1000);
         two.read(0, 1, 5000, 5000);
         Due.is("either may be wrong", two.wrong(0), NONE);
+        two.second(0, 0, 1000, 1000);
+        two.second(0, 1, 4999, 4999);
+        Due.is("without 1 a single cell fits", two.fits(0, 1, 0), 1);
+        Due.is("without 0 none fits", two.fits(0, 2, 0), 0);
+        Due.is("1 is wrong", two.wrong(0), 1);
         Due.is("no quake 1", two.wrong(1), NONE);
         Due.is("no quake -1", two.wrong(-1), NONE);
     }

@@ -9,6 +9,7 @@ public final class RulesTest {
         arithmetic();
         logic();
         faults();
+        cuts();
         limits();
         Due.finish("RulesTest");
     }
@@ -104,6 +105,11 @@ public final class RulesTest {
         Due.is("crossings", judged("quake when crossings = 4;"), 3);
         Due.is("rise", judged("quake when rise = 4;"), 3);
         Due.is("clipped", judged("quake when clipped = 2;"), 3);
+        CellarPen later = withBurst();
+        Due.rules(later, "quake when length = 3 and rise = 1 and crossings = 1 and peak = 120;");
+        Due.is("from sample 2 on", later.kind(0, 2, 3, 0, 0), 0);
+        Due.rules(later, "quake when length = 2 and rise = 1 and crossings = 1 and peak = 120;");
+        Due.is("from sample 2 on", later.kind(0, 2, 3, 0, 0), 3);
         Due.is("from the left", judged("quake when 10-3-2 = 5;"), 3);
         Due.is("* ahead of +", judged("quake when 2+3*4 = 14;"), 3);
         Due.is("* ahead of -", judged("quake when 20-3*4+1 = 9;"), 3);
@@ -145,6 +151,13 @@ public final class RulesTest {
         fault("Truck when 1=1;", 1, 0);
         fault("truckX when 1=1;", 1, 0);
         fault("truckwhen 1=1;", 1, 0);
+        for (char letter : new char[] {'a', 'z', 'A', 'Z'}) {
+            fault("truck" + letter, 1, 0);
+        }
+        for (char sign : new char[] {'@', '[', '`', '{', 0, 128, 233}) {
+            fault("truck" + sign, 1, 5);
+        }
+        fault("truck when 1/:", 1, 13);
         fault("truck", 1, 5);
         fault("truck  ", 1, 7);
         fault("truck 1=1;", 1, 6);
@@ -187,6 +200,35 @@ public final class RulesTest {
         CellarPen p = new CellarPen();
         Due.is("0 as a factor", Due.rules(p, "truck when 1*0=0;"), 1);
         Due.is("0 ahead of a /", Due.rules(p, "truck when 0/1=0;"), 1);
+    }
+
+    /** What was cut off the TAPE is no part of the TEXT. */
+    private static void cut(String text, int length) {
+        CellarPen p = new CellarPen();
+        Due.feed(p, text);
+        p.end(length);
+        Due.is("cut " + text, p.rules(), NONE);
+        Due.is("fault of cut " + text, p.fault(0), 1);
+        Due.is("place in cut " + text, p.fault(1), length);
+    }
+
+    private static void cuts() {
+        cut("truckx when", 5);
+        cut("truck      ", 5);
+        cut("truck when 1=19;", 14);
+        cut("truck when 1=1;", 14);
+        CellarPen p = new CellarPen();
+        Due.feed(p, "truck when 1=1; nonsense");
+        p.end(15);
+        Due.is("the nonsense is cut off", p.rules(), 1);
+        Due.is("a fault in the midst", Due.rules(p, "truck when 1 < 2 and not not 1="), NONE);
+        Due.is("leaves nothing behind", Due.rules(p, "blast when 1=1;"), 1);
+        p.cellar(0, 0);
+        p.write(0, 0, 0);
+        Due.is("leaves nothing behind", p.kind(0, 0, 0, 0, 0), 2);
+        Due.is("a fault in brackets", Due.rules(p, "truck when not ((((((("), NONE);
+        Due.is("leaves no bracket open", Due.rules(p, "quake when not ((((((( 1=2 )))))));"), 1);
+        Due.is("and is so", p.kind(0, 0, 0, 0, 0), 3);
     }
 
     private static String repeated(String text, int times) {
