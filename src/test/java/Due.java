@@ -1,9 +1,16 @@
+import java.io.IOException;
+import java.io.UncheckedIOException;
 import java.nio.charset.StandardCharsets;
+import java.nio.file.Files;
+import java.nio.file.Path;
 
 /** What the tests share: counts answers that are not as due, and feeds TEXTS. */
 final class Due {
+    private static final Path DOCUMENT = Path.of("../shared/DOC.md");
     private static int asked = 0;
     private static int wrong = 0;
+    private static String document = "";
+    private static String sentence = "";
 
     private Due() {
     }
@@ -12,8 +19,26 @@ final class Due {
         asked++;
         if (got != want) {
             wrong++;
-            System.out.println(call + " answered " + got + ", due is " + want);
+            System.out.println(sentence + call + " answered " + got + ", due is " + want);
         }
+    }
+
+    /** The document's words that the next answers are asked for (empty: none); words that it does not hold are a fault. */
+    static void says(String words) {
+        sentence = "";
+        yes("the document says: " + words, document().isEmpty() || document().contains(words));
+        sentence = words.isEmpty() ? "" : "[" + words + "] ";
+    }
+
+    private static String document() {
+        if (document.isEmpty() && Files.isReadable(DOCUMENT)) {
+            try {
+                document = Files.readString(DOCUMENT);
+            } catch (IOException unread) {
+                throw new UncheckedIOException(unread);
+            }
+        }
+        return document;
     }
 
     static void yes(String call, boolean got) {
