@@ -22,6 +22,7 @@ public final class CatalogueEdgeTest {
         quarryFirst();
         foretold();
         foretoldAtLeastZero();
+        cellsOfThisPart();
         hundredFelt();
         feltOfEntries();
         offAndLean();
@@ -309,6 +310,20 @@ public final class CatalogueEdgeTest {
             Due.is("lean of it", p.shaken(1), row[1] - 5);
             Due.is("off of it", p.shaken(0), 5 - row[1]);
         }
+    }
+
+    private static void cellsOfThisPart() {
+        Due.says("CELLS are 40 y + x in calls of this part.");
+        CellarPen p = new CellarPen();
+        // x 39, y 0 and x 0, y 1 are next to one another as numbers, and 39 CELLS apart
+        p.entry(0, 0, 12, 39, 500);
+        Due.is("the entry's cell", p.quarries(0, 1, 1), 39);
+        p.felt(39, 0, 0);
+        p.felt(79, 0, 0);
+        p.felt(40, 0, 0);
+        Due.is("the same cell", p.shaken(10), 500);
+        Due.is("one below it", p.shaken(11), 485);
+        Due.is("39 off: LEVEL of 40 is 52", p.shaken(12), 500 - 78);
     }
 
     private static void hundredFelt() {

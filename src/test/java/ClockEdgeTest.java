@@ -209,7 +209,7 @@ public final class ClockEdgeTest {
     }
 
     private static void longestTimes() {
-        Due.says("`long time(int c, int sample, int what)`");
+        Due.says("TIME of a SAMPLE: what 0 from, 1 to, 2 CLOCK SECONDS.");
         CellarPen p = withSamples(3);
         p.mark(0, 0, 9998);
         p.mark(0, 2, 9999);

@@ -13,6 +13,8 @@ public final class PenEdgeTest {
         stepAsAhead();
         wrapping();
         fullPaper();
+        groundEnds();
+        everySample();
         limitFromBothSides();
         clipped();
         toldSamples();
@@ -240,6 +242,37 @@ public final class PenEdgeTest {
             p.write(0, i, 0);
         }
         Due.is("200 with told ones", p.ground(0, 0), UNKNOWN);
+    }
+
+    private static void groundEnds() {
+        Due.says("A STEP with GROUND g (-9999 .. 9999): the SAMPLE;");
+        CellarPen p = withCellar();
+        Due.is("10000", p.ground(0, 10000), UNKNOWN);
+        Due.is("-10000", p.ground(0, -10000), UNKNOWN);
+        Due.is("no step was done", p.at(0, 1000), 0);
+        Due.is("9999", p.ground(0, 9999), 99);
+        Due.is("V", p.at(0, 1002), 9999);
+        CellarPen down = withCellar();
+        Due.is("-9999", down.ground(0, -9999), -99);
+        Due.is("V", down.at(0, 1002), -9999);
+        Due.is("no such cellar", down.ground(1, 0), UNKNOWN);
+    }
+
+    private static void everySample() {
+        Due.says("what 0 .. 199 that SAMPLE, 1000 how many, 1001 Y, 1002 V, 1003 CLIPPED ones,");
+        CellarPen p = withCellar();
+        for (int i = 0; i < 200; i++) {
+            Due.is("no sample yet " + i, p.at(0, i), UNKNOWN);
+            p.write(0, i, i - 100);
+        }
+        Due.is("the first", p.at(0, 0), -100);
+        Due.is("the last", p.at(0, 199), 99);
+        Due.is("200", p.at(0, 200), UNKNOWN);
+        Due.is("-1", p.at(0, -1), UNKNOWN);
+        Due.is("how many", p.at(0, 1000), 200);
+        Due.is("clipped ones", p.at(0, 1003), 3);
+        Due.is("999", p.at(0, 999), UNKNOWN);
+        Due.is("1006", p.at(0, 1006), UNKNOWN);
     }
 
     private static void limitFromBothSides() {

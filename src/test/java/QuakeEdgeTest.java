@@ -64,7 +64,7 @@ public final class QuakeEdgeTest {
     }
 
     private static void sixteenQuakes() {
-        Due.says("A QUAKE: its number; NONE if there are 16.");
+        Due.says("QUAKES 0 .. 15 as they come have READINGS");
         CellarPen p = new CellarPen();
         p.cellar(0, 0);
         for (int q = 0; q < 16; q++) {
@@ -72,6 +72,7 @@ public final class QuakeEdgeTest {
             Due.is("quake " + q, p.quake(), q);
             Due.is("now " + q, p.fits(q, 1, 0), 1600);
         }
+        Due.says("A QUAKE: its number; NONE if there are 16.");
         Due.is("the 17th", p.quake(), NONE);
         Due.is("still 16", p.look(1), 16);
         Due.no("no quake 16", p.read(16, 0, 0, 0));

@@ -360,7 +360,7 @@ public final class SizeEdgeTest {
     }
 
     private static void fourTimes() {
-        Due.says("how many ways; NONE if there are not four times, or one can't be.");
+        Due.says("COUPLES of just four times for two DISTANCES and a doubt u");
         CellarPen p = new CellarPen();
         for (int i = 0; i <= 8; i++) {
             Due.is(i + " times", p.couples(0, 0, 999), i == 4 ? 3 : NONE);
@@ -368,6 +368,7 @@ public final class SizeEdgeTest {
         }
         p.pick(NONE);
         Due.is("none again", p.couples(0, 0, 999), NONE);
+        Due.says("COUPLES for two DISTANCES (0 .. 55) and a doubt u 0 .. 999: how many ways; NONE if there are not four times");
         CellarPen four = withTimes(0, 1, 2, 3);
         int[][] bad = {{-1, 0, 0}, {56, 0, 0}, {0, -1, 0}, {0, 56, 0}, {0, 0, -1}, {0, 0, 1000}};
         for (int[] row : bad) {
