@@ -237,6 +237,8 @@ public final class ClockEdgeTest {
         Due.is("the least int", p.first(0, Integer.MIN_VALUE), NONE);
         Due.is("no such cellar", p.first(1, 0), NONE);
         Due.is("no such cellar", p.first(-1, 0), NONE);
+        p.write(0, 0, -1);
+        Due.is("the very first", p.first(0, 0), 0);
         CellarPen last = withSamples(199);
         last.write(0, 199, -1);
         Due.is("the last of 200", last.first(0, 0), 199);

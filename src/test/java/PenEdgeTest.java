@@ -492,6 +492,38 @@ public final class PenEdgeTest {
         Due.is("how many", p.swing(0, 0, 2, 0), 63);
         Due.is("least damp", p.swing(0, 0, 2, 1), 1);
         Due.is("least stiff with it", p.swing(0, 0, 2, 2), 63);
+        Due.samples(p, 0, 0, -64, -64);
+        Due.is("how many below 0", p.swing(0, 0, 2, 0), 63);
+        Due.is("least damp below 0", p.swing(0, 0, 2, 1), 1);
+        Due.is("least stiff with it", p.swing(0, 0, 2, 2), 63);
+        swingAtZero();
+    }
+
+    /** A SAMPLE of 0 leaves all to DAMP; the pull is 0 for what is less than 64 on either side. */
+    private static void swingAtZero() {
+        CellarPen p = withCellar();
+        Due.samples(p, 0, 1, 0, -1);
+        Due.is("63 by 64 is 0, below 0 too", p.swing(0, 0, 2, 0), 4096);
+        Due.samples(p, 0, -1, 0, 1);
+        Due.is("63 by 64 is 0", p.swing(0, 0, 2, 0), 4096);
+        Due.samples(p, 0, -2, 0, 1);
+        // DAMP 2 by 64 is 1 from DAMP 32 on
+        Due.is("from damp 32 on", p.swing(0, 0, 2, 0), 32 * 64);
+        Due.is("from damp 32 on", p.swing(0, 0, 2, 1), 32);
+        Due.is("any stiff", p.swing(0, 0, 2, 2), 0);
+        Due.samples(p, 0, 2, 0, -1);
+        Due.is("below 0", p.swing(0, 0, 2, 0), 32 * 64);
+        Due.is("below 0", p.swing(0, 0, 2, 1), 32);
+        Due.samples(p, 0, 1, 1, 0);
+        Due.is("y 1: no STIFF is 64", p.swing(0, 0, 2, 0), 0);
+        Due.samples(p, 0, -1, -1, 0);
+        Due.is("y -1: no STIFF is 64", p.swing(0, 0, 2, 0), 0);
+        Due.samples(p, 0, 2, 2, 1);
+        Due.is("y 2: STIFF 32 .. 63", p.swing(0, 0, 2, 0), 32 * 64);
+        Due.is("y 2: STIFF 32", p.swing(0, 0, 2, 2), 32);
+        Due.samples(p, 0, -2, -2, -1);
+        Due.is("y -2: STIFF 32 .. 63", p.swing(0, 0, 2, 0), 32 * 64);
+        Due.is("y -2: STIFF 32", p.swing(0, 0, 2, 2), 32);
     }
 
     private static void swingWholePaper() {

@@ -388,6 +388,14 @@ public final class QuakeEdgeTest {
             p.second(0, c, 4000, 4000);
             Due.is("wrong in itself, too, " + c, p.wrong(0), c);
         }
+        CellarPen single = with(3, 3);
+        single.cellar(30, 30);
+        single.read(0, 0, 500, 500);
+        single.second(0, 0, 500, 500);
+        single.read(0, 1, 500, 500);
+        single.second(0, 1, 490, 490);
+        Due.is("but for it just one cell fits", single.fits(0, 1, 0), 1);
+        Due.is("that is some", single.wrong(0), 1);
         CellarPen self = with(3, 3);
         self.read(0, 0, 500, 500);
         self.second(0, 0, 499, 499);
@@ -405,6 +413,11 @@ public final class QuakeEdgeTest {
         two.read(0, 0, 100, 100);
         two.read(0, 1, 200, 200);
         Due.is("each of two may be", two.wrong(0), NONE);
+        CellarPen one = with(0, 0);
+        one.read(0, 0, 100, 100);
+        one.second(0, 0, 100, 100);
+        Due.is("just one cell fits", one.fits(0, 63, 0), 1);
+        Due.is("so none is wrong", one.wrong(0), NONE);
         CellarPen none = with(0, 0);
         Due.is("nothing was read", none.wrong(0), NONE);
         none.read(0, 0, 100, 100);

@@ -120,6 +120,20 @@ public final class RuleEdgeTest {
         p.end(6);
         Due.is("behind what was left", p.feed(0x7768656E, 0x20313D31, 0x3B202020, 0x20202020, 0x20202020), 26);
         Due.is("truck when 1=1;", p.rules(), 1);
+        cut("truckx when", 5);
+        cut("truck when 1=19;", 14);
+        cut("truck      ", 5);
+        cut("truck when 1=11111;", 17);
+    }
+
+    /** What was cut off the TAPE does not join what is left of it. */
+    private static void cut(String text, int length) {
+        CellarPen p = new CellarPen();
+        Due.feed(p, text);
+        p.end(length);
+        Due.is("cut " + text, p.rules(), NONE);
+        Due.is("fault of cut " + text, p.fault(0), 1);
+        Due.is("place in cut " + text, p.fault(1), length);
     }
 
     private static void tapeIsEmptyThen() {
@@ -152,6 +166,10 @@ public final class RuleEdgeTest {
         List<String> bad = List.of("truc", "trucks", "t", "Truck", "TRUCK", "trucktruck", "truckwhen", "lorry");
         for (String word : bad) {
             fault(word + " when 1=1;", 1, 0);
+        }
+        for (String letter : List.of("a", "z", "A", "Z")) {
+            fault("truck" + letter + " when 1=1;", 1, 0);
+            fault(letter + "truck when 1=1;", 1, 0);
         }
         fault("truck whe 1=1;", 1, 6);
         fault("truck whenn 1=1;", 1, 6);

@@ -420,6 +420,10 @@ public final class SizeEdgeTest {
 
     private static void couplesOnce() {
         Due.says("how many ways;");
+        CellarPen late = withTimes(9000, 9070, 9140, 9210);
+        Due.is("waits, not times: the first way", late.couples(10, 10, 0), 1);
+        Due.is("waits, not times: the second way", late.couples(20, 20, 0), 1);
+        Due.is("waits, not times: the third way", late.couples(30, 10, 0), 1);
         CellarPen p = withTimes(0, 70, 140, 210);
         Due.is("either DISTANCE for either couple is one way still", p.couples(10, 10, 5), 1);
         Due.is("three ways at most", p.couples(20, 20, 999), 3);
