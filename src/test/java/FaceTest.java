@@ -34,8 +34,11 @@ public final class FaceTest {
     }
 
     private static void constants() {
+        Due.says("The constants: `NONE = -1`: None.");
         Due.is("NONE", CellarPen.NONE, -1);
+        Due.says("`UNKNOWN = -1000000000`: Unknown.");
         Due.is("UNKNOWN", CellarPen.UNKNOWN, -1000000000);
+        Due.says("");
     }
 
     private static String signature(Method method) {

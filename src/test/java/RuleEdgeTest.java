@@ -27,6 +27,7 @@ public final class RuleEdgeTest {
         wrapping();
         towardsZero();
         comparisons();
+        units();
         firstLineThatIsSo();
         hoursAndDays();
         longestText();
@@ -483,6 +484,23 @@ public final class RuleEdgeTest {
         so("4>5", false);
         so("0-1<0", true);
         so("4096*4096*128<4096*4096*128-1", true);
+    }
+
+    private static void units() {
+        Due.says("U = NUMBER | hour | day | peak | length | crossings | rise | clipped.");
+        String[] names = {"hour", "day", "peak", "length", "crossings", "rise", "clipped"};
+        int[] most = {23, 6, 999, 6, 4, 3, 1};
+        int[] least = {0, 0, 0, 1, 0, 0, 0};
+        CellarPen p = new CellarPen();
+        p.cellar(0, 0);
+        Due.samples(p, 0, 7, -7, 98, -999, 5, 0);
+        for (int i = 0; i < names.length; i++) {
+            Due.rules(p, "truck when " + names[i] + "=" + most[i] + "; blast when " + names[i] + "=" + least[i] + ";");
+            Due.is("the most of " + names[i], p.kind(0, 0, 5, 23, 6), 1);
+            Due.is("the least of " + names[i], p.kind(0, 5, 5, 0, 0), 2);
+        }
+        so("0=0000", true);
+        so("9999>9998", true);
     }
 
     private static void firstLineThatIsSo() {

@@ -2,15 +2,20 @@ import java.io.IOException;
 import java.nio.file.Files;
 import java.nio.file.Path;
 import java.util.ArrayList;
+import java.util.Arrays;
 import java.util.List;
 import java.util.regex.Matcher;
 import java.util.regex.Pattern;
 import java.util.stream.Stream;
 
-/** Each promise, and each part of the document's terms, has a test that says its words. */
+/** Each promise, each part of the document's terms, and each sentence of them has a test that says its words. */
 public final class SentenceTest {
     private static final Path DOCUMENT = Path.of("../shared/DOC.md");
     private static final Pattern SAID = Pattern.compile("Due\\.says\\(\"([^\"]+)\"\\)");
+    // a full stop, but not the two of a range
+    private static final Pattern STOP = Pattern.compile("(?<!\\.)\\.(?!\\.)(?=\\s)|\n\\s*\n");
+    // headings, the numbers of parts, and the lines that hold a text together
+    private static final Pattern NO_SENTENCE = Pattern.compile("#.*|(```)?\\s*(====.*)?|```text");
 
     public static void main(String[] args) throws IOException {
         List<String> said = said();
@@ -23,6 +28,7 @@ public final class SentenceTest {
             for (int part = 1; part <= 5; part++) {
                 isSaid("part " + part, section(document, "==== " + part + ".", "===="), said);
             }
+            everySentence(document, said);
         }
         Due.finish("SentenceTest");
     }
@@ -52,5 +58,33 @@ public final class SentenceTest {
 
     private static void isSaid(String name, String section, List<String> said) {
         Due.yes("words of " + name + " are said by a test", said.stream().anyMatch(section::contains));
+    }
+
+    private static void everySentence(String document, List<String> said) {
+        boolean[] isQuoted = new boolean[document.length()];
+        for (String words : said) {
+            for (int at = document.indexOf(words); at >= 0; at = document.indexOf(words, at + 1)) {
+                Arrays.fill(isQuoted, at, at + words.length(), true);
+            }
+        }
+        int from = document.indexOf("## Terms");
+        int to = document.indexOf("## Not promised");
+        Due.yes("the document has terms, and an end of them", from >= 0 && to > from);
+        Matcher stop = STOP.matcher(document);
+        while (from >= 0 && from < to && stop.find(from)) {
+            String sentence = document.substring(from, stop.start()).strip();
+            if (!NO_SENTENCE.matcher(sentence).matches()) {
+                Due.yes("said by a test: " + sentence, isAnyQuoted(isQuoted, from, stop.start()));
+            }
+            from = stop.end();
+        }
+    }
+
+    private static boolean isAnyQuoted(boolean[] isQuoted, int from, int to) {
+        boolean any = false;
+        for (int i = from; i < to; i++) {
+            any |= isQuoted[i];
+        }
+        return any;
     }
 }
