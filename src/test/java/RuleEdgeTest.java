@@ -243,6 +243,12 @@ public final class RuleEdgeTest {
         Due.is("600 bytes", full.length(), 600);
         fault(full, 1, 600);
         fault("truck when 1=1" + "+1".repeat(293), 1, 600);
+        // KEYWORDS and NUMBERS that end with the full TAPE are whole
+        fault(LINE + " ".repeat(580) + "truck", 1, 600);
+        fault("truck when 1=" + " ".repeat(578) + "crossings", 1, 600);
+        fault("truck when 1=" + " ".repeat(583) + "9999", 1, 600);
+        fault("truck when 1=" + " ".repeat(582) + "12345", 1, 595);
+        fault("truck when 1=1" + " ".repeat(580) + "trucks", 1, 594);
         // what was cut off is no part of the TEXT
         CellarPen p = new CellarPen();
         Due.feed(p, LINE);
