@@ -27,6 +27,7 @@ public final class FaceTest {
     public static void main(String[] args) throws IOException {
         constants();
         publicMethods();
+        documentFace(Files.readString(Path.of("src/main/java/CellarPen.java")));
         otherMembers();
         insideClasses();
         source(Files.readString(Path.of("src/main/java/CellarPen.java")));
@@ -58,6 +59,27 @@ public final class FaceTest {
         }
         Due.yes("the face is " + due + ", found " + found, due.equals(found));
         Due.is("methods", FACE.length, 41);
+    }
+
+    /** Every line of "The public face" stands in the source as the document writes it, names of numbers too. */
+    private static void documentFace(String source) throws IOException {
+        Path document = Path.of("../shared/DOC.md");
+        if (!Files.isReadable(document)) {
+            return;
+        }
+        String text = Files.readString(document);
+        String begin = "```java\n";
+        int from = text.indexOf(begin);
+        int to = text.indexOf("```", from + begin.length());
+        Due.yes("the document shows a face", from >= 0 && to > from);
+        int lines = 0;
+        for (String line : text.substring(from + begin.length(), to).split("\n")) {
+            boolean isHead = line.endsWith(");");
+            String due = isHead ? line.substring(0, line.length() - 1) + " {" : line;
+            Due.yes("the face has " + line, source.contains(due + "\n") || line.isBlank());
+            lines += isHead ? 1 : 0;
+        }
+        Due.is("methods and the constructor", lines, FACE.length + 1);
     }
 
     private static void otherMembers() {

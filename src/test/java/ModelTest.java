@@ -32,93 +32,13 @@ public final class ModelTest {
 
     // ---- rules
 
-    private static final String[] TOKENS = {"truck", "blast", "quake", "when", "or", "and", "not", "(", ")", "+", "-",
-        "*", "/", "<", "=", ">", ";", "hour", "day", "peak", "length", "crossings", "rise", "clipped", "0", "1", "12",
-        "9999", "12345", "xyz", "Or", "?", "."};
-
-    private static String any(String... choices) {
-        return choices[RANDOM.nextInt(choices.length)];
-    }
-
-    private static void unit(List<String> out) {
-        out.add(RANDOM.nextBoolean() ? String.valueOf(RANDOM.nextInt(RANDOM.nextBoolean() ? 12 : 10000))
-            : any("hour", "day", "peak", "length", "crossings", "rise", "clipped"));
-    }
-
-    private static void sum(List<String> out) {
-        unit(out);
-        while (RANDOM.nextInt(3) == 0) {
-            String sign = any("+", "-", "*", "/");
-            out.add(sign);
-            if (sign.equals("/")) {
-                out.add(String.valueOf(RANDOM.nextInt(20)));
-            } else {
-                unit(out);
-            }
-        }
-    }
-
-    private static void condition(List<String> out, int depth) {
-        int way = RANDOM.nextInt(depth > 9 ? 1 : 4);
-        if (way <= 1) {
-            sum(out);
-            out.add(any("<", "=", ">"));
-            sum(out);
-        } else if (way == 2) {
-            out.add("not");
-            condition(out, depth + 1);
-        } else {
-            out.add("(");
-            either(out, depth + 1);
-            out.add(")");
-        }
-    }
-
-    private static void either(List<String> out, int depth) {
-        condition(out, depth);
-        while (RANDOM.nextInt(3) == 0) {
-            out.add(any("or", "and"));
-            condition(out, depth);
-        }
-    }
-
-    private static String ruleText() {
-        List<String> out = new ArrayList<>();
-        int lines = RANDOM.nextInt(4) == 0 ? RANDOM.nextInt(20) : 1 + RANDOM.nextInt(3);
-        for (int i = 0; i < lines; i++) {
-            out.add(any("truck", "blast", "quake"));
-            out.add("when");
-            if (lines > 5) {
-                out.addAll(List.of(any("1", "2"), "=", "3"));
-            } else {
-                either(out, 0);
-            }
-            out.add(";");
-        }
-        int mutations = RANDOM.nextBoolean() ? 0 : 1 + RANDOM.nextInt(2);
-        for (int i = 0; i < mutations && !out.isEmpty(); i++) {
-            int at = RANDOM.nextInt(out.size());
-            int way = RANDOM.nextInt(3);
-            if (way == 0) {
-                out.remove(at);
-            } else if (way == 1) {
-                out.set(at, any(TOKENS));
-            } else {
-                out.add(at, any(TOKENS));
-            }
-        }
-        StringBuilder text = new StringBuilder();
-        for (String token : out) {
-            text.append(token).append(any(" ", " ", "\n", "  ", RANDOM.nextInt(4) == 0 ? "" : " "));
-        }
-        return text.length() > 600 ? text.substring(0, 600) : text.toString();
-    }
+    private static final RuleTexts TEXTS = new RuleTexts(RANDOM);
 
     private static void rules() {
         CellarPen p = new CellarPen();
         p.cellar(0, 0);
         Due.samples(p, 0, 1, -2, 3, -120, 130, 0);
-        String text = ruleText();
+        String text = TEXTS.next();
         int hour = RANDOM.nextInt(24);
         int day = RANDOM.nextInt(7);
         RuleModel model = new RuleModel(text, Map.of("hour", hour, "day", day, "peak", 130, "length", 6,

@@ -16,9 +16,13 @@ public final class StormTest {
     public static void main(String[] args) throws IllegalAccessException {
         Method[] calls = calls();
         for (int seed = 0; seed < 300; seed++) {
-            long once = storm(calls, seed);
-            long again = storm(calls, seed);
+            long once = storm(calls, seed, 500);
+            long again = storm(calls, seed, 500);
             Due.is("the same calls, the same answers", once, again);
+        }
+        // behind its 512th call an object may answer anything, but it must not throw
+        for (int seed = 300; seed < 305; seed++) {
+            storm(calls, seed, 10000);
         }
         Due.finish("StormTest");
     }
@@ -50,7 +54,7 @@ public final class StormTest {
         return number;
     }
 
-    private static long storm(Method[] calls, int seed) throws IllegalAccessException {
+    private static long storm(Method[] calls, int seed, int number) throws IllegalAccessException {
         Random random = new Random(seed);
         CellarPen pen = new CellarPen();
         for (int i = 0; i < 3; i++) {
@@ -58,7 +62,7 @@ public final class StormTest {
             pen.quake();
         }
         long sum = 0;
-        for (int i = 0; i < 500; i++) {
+        for (int i = 0; i < number; i++) {
             Method call = calls[random.nextInt(calls.length)];
             Object[] arguments = new Object[call.getParameterCount()];
             for (int k = 0; k < arguments.length; k++) {
